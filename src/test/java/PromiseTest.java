@@ -4,6 +4,7 @@ public final class PromiseTest {
     private static final int FULL = -1000000002;
     private static final int KIND = -1000000003;
     private static final int NONE = -1000000004;
+    private static final int STATE = -1000000005;
     private static final int MISSING = -1000000006;
     private static final int SIZE = -1000000007;
     private static final int LOW = Integer.MIN_VALUE;
@@ -70,11 +71,13 @@ public final class PromiseTest {
         ride();
         minutes();
         minutesHeld();
+        lastMinute();
         on();
         then();
         quick();
         stands();
         flung();
+        farAhead();
         send();
         kind();
         firm();
@@ -244,6 +247,12 @@ public final class PromiseTest {
         x.minutes(40);
         speaksFrom("at night", fromAtNight);
         x.out(6, 0);
+        x.out(2, 1);
+        x.set(2, 3, 500);
+        due("gossip alone", x.of(2, 5), 0);
+        x.minutes(1);
+        due("gossip alone is silent", x.of(2, 3), 501);
+        x.out(2, 0);
         x.set(5, 3, 0);
         x.iron(1, 100);
         due("bride at 100", x.of(5, 5), 0);
@@ -492,6 +501,21 @@ public final class PromiseTest {
         due("childOf(0, 1)", x.childOf(0, 1), 1);
     }
 
+    /** No run of 512 calls comes here; but STATE can't be seen otherwise. */
+    private static void lastMinute() {
+        begin(15);
+        for (int i = 0; i < 999; i++) {
+            x.minutes(100);
+        }
+        due("minutes(100)", x.minutes(100), STATE);
+        due("minutes(101)", x.minutes(101), BEYOND);
+        due("now(0)", x.now(0), 99900);
+        due("minutes(99)", x.minutes(99), 0);
+        due("now(0)", x.now(0), 99999);
+        due("minutes(1)", x.minutes(1), STATE);
+        due("status(4)", x.status(4), 2);
+    }
+
     private static void on() {
         begin(16);
         mother(3, 20, 0, 1);
@@ -539,6 +563,8 @@ public final class PromiseTest {
         x.iron(1, 50);
         due("quick(50)", x.quick(50), 0);
         due("quick(51)", x.quick(51), NONE);
+        x.iron(1, 200);
+        due("quick(200)", x.quick(200), 0);
         x.iron(1, 0);
         x.iron(0, 40);
         mother(3, 40, 0, 1);
@@ -584,6 +610,49 @@ public final class PromiseTest {
         due("childOf(0, 2)", x.childOf(0, 2), 0);
     }
 
+    private static void begin(int number, int kind, int secret, int silent, int heavy, int speed) {
+        begin(number);
+        mother(kind, secret, silent, 1);
+        x.iron(0, heavy);
+        x.iron(1, speed);
+    }
+
+    /** The 200th minute is the last that is looked at: what comes in the 201st is NONE. */
+    private static void farAhead() {
+        begin(18, 3, 35, 0, 5, 83);
+        x.rain(11);
+        child(162);
+        int quicker = 0;
+        for (int n = 0; n < 200; n++) {
+            quicker += x.on(n, 0) >= 105 ? 1 : 0;
+        }
+        due("minutes before the 200th with 105", quicker, 0);
+        due("on(200, 0) of 105 or more", x.on(200, 0) >= 105 ? 1 : 0, 1);
+        due("quick(105)", x.quick(105), 200);
+
+        begin(19, 0, 70, 0, 7, 128);
+        child(37);
+        int standing = 0;
+        for (int n = 0; n <= 200; n++) {
+            standing += x.on(n, 0) == 0 ? 1 : 0;
+        }
+        due("minutes up to the 200th that it stands", standing, 0);
+        due("stands()", x.stands(), NONE);
+        x.minutes(1);
+        due("stands()", x.stands(), 200);
+        due("on(200, 0)", x.on(200, 0), 0);
+
+        begin(20, 3, 57, 0, 18, 84);
+        x.rain(10);
+        child(174);
+        due("on(200, 2)", x.on(200, 2), 1);
+        due("flung(0)", x.flung(0), NONE);
+        x.minutes(1);
+        due("on(199, 2)", x.on(199, 2), 1);
+        due("on(200, 2)", x.on(200, 2), 0);
+        due("flung(0)", x.flung(0), 200);
+    }
+
     private static void send() {
         begin(21);
         due("send(1)", x.send(1), NONE);
@@ -599,6 +668,13 @@ public final class PromiseTest {
         x.rain(31);
         due("send(60)", x.send(60), 1);
         x.rain(0);
+        due("send(60)", x.send(60), 2);
+        x.set(1, 2, 41);
+        due("send(60)", x.send(60), 1);
+        begin(21);
+        mother(3, 40, 0, 1);
+        mother(3, 30, 0, 1);
+        due("send(1)", x.send(1), 0);
         // Without its one companion a gossip keeps nothing back: 60 alone is less than 40.
         begin(21);
         mother(2, 99, 41, 1);
@@ -656,6 +732,21 @@ public final class PromiseTest {
         due("firm(0, 1)", x.firm(0, 1), 42);
         due("firm(0, 3)", x.firm(0, 3), 42);
         due("firm(0, 6)", x.firm(0, 6), 44);
+        for (int speed = 0; speed <= 200; speed += 7) {
+            justHolds(speed);
+        }
+    }
+
+    private static void justHolds(int speed) {
+        begin(23, 0, 99, 0, 5, speed);
+        child(0);
+        int firm = x.firm(0, 20);
+        x.grip(0, firm);
+        due("on(20, 2) from " + speed, x.on(20, 2), 1);
+        if (firm > 0) {
+            x.grip(0, firm - 1);
+            due("on(20, 2) from " + speed + ", less firm", x.on(20, 2), 0);
+        }
     }
 
     private static void heavy() {
@@ -665,9 +756,20 @@ public final class PromiseTest {
         due("heavy(61)", x.heavy(61), BEYOND);
         child(10);
         mother(3, 60, 0, 1);
-        // 120 by HEAVY and 2, 1 less, is to be 10 at most: by 11 it is 10 (9), by 10 12.
+        // 120 by HEAVY and 2, 1 less, is to be 10 at most: by 11 it is 10, 1 less 9; by 10 it is 12.
         due("heavy(1)", x.heavy(1), 9);
         due("now(6)", x.now(6), 12);
+        // 156 by 40 is 3, by 39 it is 4; by 52, the most there is, still 3, but 154 by 52 is 2.
+        x.set(0, 2, 77);
+        x.grip(0, 2);
+        x.mother(0);
+        x.out(1, 1);
+        due("now(7)", x.now(7), 156);
+        due("heavy(1)", x.heavy(1), 38);
+        x.grip(0, 1);
+        due("heavy(1)", x.heavy(1), NONE);
+        x.out(1, 0);
+        due("heavy(1)", x.heavy(1), 50);
         x.iron(1, 100);
         due("heavy(1)", x.heavy(1), NONE);
         x.ride(0, 0);
@@ -699,6 +801,14 @@ public final class PromiseTest {
         x.rain(1);
         due("fewest(1)", x.fewest(1), NONE);
         due("fewest(0)", x.fewest(0), 0);
+        begin(25);
+        for (int m = 0; m < 8; m++) {
+            mother(3, 1, 0, 0);
+        }
+        due("fewest(14)", x.fewest(14), 127);
+        due("fewest(15)", x.fewest(15), 255);
+        due("fewest(16)", x.fewest(16), 255);
+        due("fewest(17)", x.fewest(17), NONE);
         // One who comes out begins her silence then, whatever it was inside.
         begin(25);
         mother(0, 50, 900, 0);
@@ -804,6 +914,8 @@ public final class PromiseTest {
         due("rain(6)", x.rain(6), 16);
         text("dry 1;rain 0", 2);
         due("rain(0)", x.rain(0), 5);
+        text("rain 4;rain 3;dry 4", 3);
+        due("rain(0)", x.rain(0), 8);
         text("heavy 1", 1);
         due("iron(0, 5)", x.iron(0, 5), 1);
         text("heavy 50;heavy 49", 2);
@@ -841,6 +953,9 @@ public final class PromiseTest {
         text("mother; ", -1 - 8);
         text("mother;;", -1 - 7);
         text("motherx", -1);
+        text("motherz", -1);
+        text("nother", -1);
+        text("mothe", -1);
         text("Mother", -1);
         text("mother X", -1 - 7);
         text("mother\tout", -1 - 6);
