@@ -874,18 +874,15 @@ public final class UnsaidRound {
         }
 
         void passMinute() {
-            gatherSpeed();
-            tryGrips();
-            letSpeak();
-            minute++;
-        }
-
-        private void gatherSpeed() {
+            int push = pushNow();
             int weight = weightNow();
-            int gain = weight > 0 ? pushNow() / weight : 0;
+            int gain = weight > 0 ? push / weight : 0;
             int loss = Math.max(1, speed / 10);
             speed = Math.max(0, Math.min(MOST_SPEED, speed + gain - loss));
             turned = Math.min(MOST_TURNED, turned + speed);
+            tryGrips();
+            letSpeak();
+            minute++;
         }
 
         private void tryGrips() {
@@ -1079,49 +1076,30 @@ public final class UnsaidRound {
                 p++;
             }
             start = p;
-            behind = p + 1;
-            if (p >= length) {
-                sort = ENDS;
-                behind = p;
-            } else if (isLetter(byteAt(p))) {
-                sort = WORD;
-                endWord();
-            } else if (isDigit(byteAt(p))) {
-                sort = NUMBER;
-                endNumber();
-            } else {
-                sort = byteAt(p) == ';' ? SIGN : OTHER;
-            }
-        }
-
-        private void endWord() {
-            int p = start;
-            while (p < length && isLetter(byteAt(p))) {
-                p++;
-            }
-            behind = p;
-        }
-
-        private void endNumber() {
-            int p = start;
+            sort = p < length ? sortOf(byteAt(p)) : ENDS;
             number = 0;
-            while (p < length && isDigit(byteAt(p))) {
-                number = Math.min(TOO_MUCH, 10 * number + byteAt(p) - '0');
+            boolean asLongAsCanBe = sort == WORD || sort == NUMBER;
+            while (p < length && sortOf(byteAt(p)) == sort && (asLongAsCanBe || p == start)) {
+                if (sort == NUMBER) {
+                    number = Math.min(TOO_MUCH, 10 * number + byteAt(p) - '0');
+                }
                 p++;
             }
             behind = p;
+        }
+
+        private static int sortOf(int b) {
+            if (b >= 'a' && b <= 'z') {
+                return WORD;
+            }
+            if (b >= '0' && b <= '9') {
+                return NUMBER;
+            }
+            return b == ';' ? SIGN : OTHER;
         }
 
         private int byteAt(int p) {
             return p >= 0 && p < MOST_BYTES ? bytes[p] : 0;
-        }
-
-        private static boolean isLetter(int b) {
-            return b >= 'a' && b <= 'z';
-        }
-
-        private static boolean isDigit(int b) {
-            return b >= '0' && b <= '9';
         }
     }
 
