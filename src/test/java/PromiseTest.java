@@ -1,4 +1,8 @@
-/** For each promise the ordinary, the edges and the wrong; what is due was worked out by hand. */
+/**
+ * For each promise the ordinary, the edges and the wrong; what is due was worked out by hand.
+ * Only farAhead and justHolds differ: their greens were found by trying the program, and there
+ * one call is held against another (on).
+ */
 public final class PromiseTest {
     private static final int BEYOND = -1000000001;
     private static final int FULL = -1000000002;
