@@ -73,6 +73,7 @@ public final class RulesTest {
         face();
         members();
         words();
+        lengths();
         noCallMakesAnything();
         System.out.println(wrong == 0 ? "the rules are kept" : wrong + " rules are not kept");
         if (wrong != 0) {
@@ -159,6 +160,26 @@ public final class RulesTest {
         for (int i = 0; i < code.length(); i++) {
             due(code.charAt(i) < 128, "a sign above 127 is in the source");
         }
+    }
+
+    private static void lengths() throws IOException {
+        String[] lines = Files.readString(SOURCE).split("\n");
+        int methods = 0;
+        int classes = 0;
+        for (int i = 0; i < lines.length; i++) {
+            classes += lines[i].matches(".*\\b(class|enum|record|interface) \\w+.*\\{") ? 1 : 0;
+            Matcher head = Pattern.compile("( {4}| {8})[a-zA-Z].*\\) \\{").matcher(lines[i]);
+            if (head.matches() && !lines[i].strip().matches("(if|for|while|switch|else)\\b.*")) {
+                int end = i;
+                while (end < lines.length && !lines[end].equals(head.group(1) + "}")) {
+                    end++;
+                }
+                methods++;
+                due(end - i <= 60, "the method in line " + (i + 1) + " has " + (end - i) + " lines");
+            }
+        }
+        due(methods > 41, "only " + methods + " methods were found");
+        due(classes <= 12, "there are " + classes + " classes");
     }
 
     private static void noCallMakesAnything() {
