@@ -7,7 +7,7 @@ import java.util.TreeMap;
 import java.util.TreeSet;
 
 /**
- * Every call with every edge value for each of its numbers, on an empty, a busy and a full green: one
+ * Every call with a row of edge values for each of its numbers, on an empty, a busy and a full green: one
  * that answers a finding changes nothing but status(), one that only asks changes nothing, and each
  * call answers just those findings that the document names for it.
  */
