@@ -440,6 +440,14 @@ public final class EdgeTest {
         Rows.edge("24: heavy: 59 and 60 MINUTES are not the same", """
             mother(3) 0; set(0, 2, 30) 10; out(0, 1) 0; rain(30) 0; child(50) 0; ride(0, 1) 1; heavy(59) 7; heavy(60) 9
             """);
+        // Each keeps 5, 2 and 9: 64. By 5 it goes at 101 and they speak: 48 by 5, 10 less, is 100, and 100 holds. By 6 it
+        // goes at 99 and they don't: 68 by 6, 9 less, is 101, too quick for 100. By 7 it goes at 98 twice.
+        Rows.edge("24: heavy: the least, even if a heavier one flings again", """
+            text 4 bride secret 25 out;bride secret 25 out;bride secret 25 out;bride secret 25 out
+            set(0, 3, 2) 0; set(1, 3, 2) 0; set(2, 3, 2) 0; set(3, 3, 2) 0; iron(1, 98) 0; child(101) 0; ride(0, 1) 1; heavy(2) 3
+            iron(0, 2) 10; on(1, 0) 105; on(2, 2) 0; iron(0, 3) 2; on(1, 0) 101; on(2, 0) 100; on(2, 2) 1
+            iron(0, 4) 3; on(1, 0) 99; on(2, 0) 101; on(2, 2) 0; iron(0, 5) 4; on(1, 0) 98; on(2, 0) 98; on(2, 2) 1; heavy(2) 3
+            """);
     }
 
     private static void fewest() {

@@ -330,7 +330,8 @@ final class Rows {
     }
 
     static void end() {
-        System.out.println(wrong == 0 ? edges + " edges hold, and " + twins + " twins are alike" : wrong + " answers or states are not as due");
+        String looked = edges + twins == 0 ? "" : ": " + edges + " edges, " + twins + " twins";
+        System.out.println(wrong == 0 ? "all is as due" + looked : wrong + " answers or states are not as due");
         if (wrong != 0) {
             System.exit(1);
         }
