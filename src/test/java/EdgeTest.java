@@ -508,6 +508,11 @@ public final class EdgeTest {
     }
 
     private static void deepest() {
+        // The bride keeps 2 and 3 for the aunt; were those that are in others, too, it would be 14 and more than 10.
+        Rows.edge("27: deepest: only others that are OUT count", """
+            text 5 bride out;aunt secret 20 out;mother;mother;mother
+            of(0, 4) 5; of(1, 4) 10; deepest(0) 1; out(2, 1) 0; out(3, 1) 0; deepest(0) 0; of(0, 4) 11; out(1, 0) 1; deepest(0) 0
+            """);
         Rows.edge("27: deepest: n 0 to 200", """
             mother(3) 0; out(0, 1) 0; deepest(-1) BEYOND; deepest(0) 0; deepest(200) 0; deepest(201) BEYOND
             deepest(LOW) BEYOND; deepest(HIGH) BEYOND
